@@ -388,28 +388,32 @@ public final class ShadeRows {
         }
 
         private double ofTwo(int op, double a, double b) {
-            switch (op) {
-                case STEP_ADD:
-                    return inRange(a + b);
-                case STEP_SUBTRACT:
-                    return inRange(a - b);
-                case STEP_MULTIPLY:
-                    return inRange(a * b);
-                case STEP_DIVIDE:
-                    return quotient(a, b);
-                case STEP_LESS:
-                    return a < b ? 1.0 : 0.0;
-                default:
-                    return 0.0;
+            if (op == STEP_LESS) {
+                return a < b ? 1.0 : 0.0;
             }
-        }
-
-        private double quotient(double a, double b) {
-            if (b == 0.0) {
+            if (op == STEP_DIVIDE && b == 0.0) {
                 note(ERROR_DIVISOR);
                 return 0.0;
             }
-            return inRange(a / b);
+            double result = reckoned(op, a, b);
+            if (result < -1.0e12 || result > 1.0e12) {
+                note(ERROR_RANGE);
+                return 0.0;
+            }
+            return result;
+        }
+
+        private static double reckoned(int op, double a, double b) {
+            switch (op) {
+                case STEP_ADD:
+                    return a + b;
+                case STEP_SUBTRACT:
+                    return a - b;
+                case STEP_MULTIPLY:
+                    return a * b;
+                default:
+                    return b == 0.0 ? 0.0 : a / b;
+            }
         }
 
         private double rootOf(double a) {
@@ -418,14 +422,6 @@ public final class ShadeRows {
                 return 0.0;
             }
             return root(a);
-        }
-
-        private double inRange(double x) {
-            if (x < -1.0e12 || x > 1.0e12) {
-                note(ERROR_RANGE);
-                return 0.0;
-            }
-            return x;
         }
     }
 
@@ -451,21 +447,26 @@ public final class ShadeRows {
         }
 
         int exchange(int i, int sample) {
-            int old = samples[i];
-            samples[i] = sample;
+            int old = sampleAt(i);
+            if (has(i)) {
+                samples[i] = sample;
+            }
             return old;
         }
 
+        private int sampleAt(int i) {
+            return has(i) ? samples[i] : 0;
+        }
+
         double at(double t, Work work) {
+            // Rounding may carry u a little beyond the last sample, never to the one behind it.
             double u = (cut(t, from, to) - from) * (count - 1) / (to - from);
             int i = (int) u;
-            if (!has(i) || !has(i + 1)) {
-                // Rounding may carry u a little beyond the last sample, never below the first.
-                return samples[count - 1] / 255.0;
+            int s = sampleAt(i);
+            if (i == count - 1) {
+                return s / 255.0;
             }
-            int s = samples[i];
-            int next = samples[i + 1];
-            return s / 255.0 + (u - i) * (next - s) / 255.0;
+            return s / 255.0 + (u - i) * (sampleAt(i + 1) - s) / 255.0;
         }
     }
 
@@ -533,15 +534,20 @@ public final class ShadeRows {
         boolean isRight() {
             int depth = 1;
             for (int i = 0; i < count; i++) {
-                if (depth < TAKES[ops[i]]) {
+                int takes = of(TAKES, ops[i]);
+                if (depth < takes) {
                     return false;
                 }
-                depth += PUTS[ops[i]] - TAKES[ops[i]];
+                depth += of(PUTS, ops[i]) - takes;
                 if (depth > MOST_STACKED) {
                     return false;
                 }
             }
             return depth == 1;
+        }
+
+        private static int of(int[] row, int op) {
+            return op >= 0 && op < row.length ? row[op] : 0;
         }
 
         double at(double t, Work work) {
@@ -612,7 +618,7 @@ public final class ShadeRows {
         }
 
         private int toneOf(double t, int band, Work work) {
-            Curve curve = colours[band];
+            Curve curve = band >= 0 && band < colours.length ? colours[band] : null;
             if (curve == null) {
                 return UNPAINTED;
             }
@@ -694,14 +700,18 @@ public final class ShadeRows {
             }
         }
 
+        private boolean hasTone(int i, int band) {
+            return has(i) && band >= 0 && band < BANDS;
+        }
+
         void tint(int i, int band, double tone) {
-            if (has(i)) {
+            if (hasTone(i, band)) {
                 tones[i * BANDS + band] = tone;
             }
         }
 
         double toneOf(int i, int band) {
-            return has(i) ? tones[i * BANDS + band] : 0.0;
+            return hasTone(i, band) ? tones[i * BANDS + band] : 0.0;
         }
 
         /** A band of triangle P Q R at (x, y), or UNPAINTED. */
@@ -818,6 +828,9 @@ public final class ShadeRows {
         }
 
         int setPoint(int i, double x, double y) {
+            if (i < 0 || i >= PATCH_POINTS) {
+                return 0;
+            }
             xs[i] = x;
             ys[i] = y;
             return 1;

@@ -64,6 +64,10 @@ final class Check {
         }
     }
 
+    static int wrongSoFar() {
+        return wrong;
+    }
+
     static void end(String name) {
         System.out.println(name + ": " + calls + " answers, " + wrong + " wrong");
         if (wrong != 0 || calls == 0) {
