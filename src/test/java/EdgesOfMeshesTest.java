@@ -11,6 +11,9 @@ public final class EdgesOfMeshesTest {
                 EdgesOfMeshesTest::points);
         Sentence.holds("Its four first vertices tell the colours of the corners 0, 3, 6, 9",
                 EdgesOfMeshesTest::corners);
+        Sentence.holds("the place at (u, v) is (1.0 - v) * bent(0, 1, 2, 3, u) + v * bent(9, 8, 7, 6,"
+                + " u) + (1.0 - u) * bent(0, 11, 10, 9, v) + u * bent(3, 4, 5, 6, v)",
+                EdgesOfMeshesTest::sidesOfPatches);
         Sentence.holds("(their places do not matter; without four there are no triangles)",
                 EdgesOfMeshesTest::fourVertices);
         Sentence.holds("and if it is not 0.0", EdgesOfMeshesTest::flat);
@@ -164,6 +167,43 @@ public final class EdgesOfMeshesTest {
                 Check.isTrue("corner " + at[k] + " at " + at[i], i == k ? tone > 200 : tone < 20);
                 Check.same("no other band", x.point(1, near[i][0], near[i][1], 0), 0);
             }
+        }
+    }
+
+    /** A square of 8 by 8 whose places are all told without rounding, for one or two pieces. */
+    private static ShadeRows exactSquare(int parts, double left, double top) {
+        ShadeRows x = new ShadeRows();
+        Made.patch(x, parts);
+        double[] across = {0, 2, 6, 8, 8, 8, 8, 6, 2, 0, 0, 0};
+        double[] down = {0, 0, 0, 0, 2, 6, 8, 8, 8, 8, 6, 2};
+        for (int i = 0; i < 12; i++) {
+            x.patch(1, i, left + across[i], top + down[i]);
+        }
+        Made.triangle(x, 1, 9, 0.0, 0.0, 0.0, 0.0, 0.0, 0.0, 0.0, 0.0);
+        return x;
+    }
+
+    /** Points whose middles lie just on the sides: the last bit of a place would lose them. */
+    private static void sidesOfPatches() {
+        for (int parts = 1; parts <= 2; parts++) {
+            for (int at = -20; at <= 20; at += 4) {
+                ShadeRows x = exactSquare(parts, at + 0.5, -at + 0.5);
+                for (int k = 0; k <= 8; k++) {
+                    Check.same("upper side", x.point(1, at + k, -at, 0), 9);
+                    Check.same("lower side", x.point(1, at + k, -at + 8, 0), 9);
+                    Check.same("left side", x.point(1, at, -at + k, 0), 9);
+                    Check.same("right side", x.point(1, at + 8, -at + k, 0), 9);
+                    Check.same("above", x.point(1, at + k, -at - 1, 0), -1);
+                    Check.same("below", x.point(1, at + k, -at + 9, 0), -1);
+                    Check.same("left", x.point(1, at - 1, -at + k, 0), -1);
+                    Check.same("right", x.point(1, at + 9, -at + k, 0), -1);
+                }
+            }
+            ShadeRows aside = exactSquare(parts, 0.5 + 0x1p-40, 0.5 - 0x1p-40);
+            Check.same("a hair right of it", aside.point(1, 0, 4, 0), -1);
+            Check.same("its right side", aside.point(1, 8, 4, 0), 9);
+            Check.same("a hair below it", aside.point(1, 4, 8, 0), -1);
+            Check.same("its upper side", aside.point(1, 4, 0, 0), 9);
         }
     }
 
