@@ -292,6 +292,12 @@ public final class EdgesOfMeshesTest {
         Check.same("0.375", x.point(1, 0, 3, 0), 0);
         Check.same("95.625", x.point(1, 3, 0, 0), 96);
         Check.same("band 1 has none", x.point(1, 3, 3, 1), 0);
+        // R lies a hair lower: half way its weight is 0.4999999999999999.
+        ShadeRows y = new ShadeRows();
+        Made.free(y);
+        Made.triangle(y, 1, 0, 0.5, 0.5, 8.5, 0.5);
+        y.vertex(1, 0.5, Math.nextUp(8.5), 0x000001);
+        Check.same("just below 0.5", y.point(1, 0, 4, 0), 0);
         Check.same("band 2 has all", x.point(1, 3, 3, 2), 255);
     }
 

@@ -238,5 +238,10 @@ public final class EdgesOfRampsTest {
         circles(x, 0.5, 0.5, 0.0, 8.5, 0.5, 0.0);
         Check.same("both radii 0.0", found(x, 5, 4, 0), 0);
         Check.same("both radii 0.0, aside", found(x, 5, 4, 1), -1);
+        // The radius of t -1.0 is minus the least number, that of t -0.3 is rounded to 0.0.
+        circles(x, 0.5, 0.5, 0.0, 8.5, 0.5, Double.MIN_VALUE);
+        x.extend(6, true, false);
+        Check.same("a radius just below 0.0", found(x, 6, -8, 0), -1);
+        Check.same("a radius that is rounded to 0.0", found(x, 6, -2, 0), 1);
     }
 }
