@@ -27,13 +27,14 @@ public final class EdgesOfCallsTest {
                 EdgesOfCallsTest::twentyFourShadings);
         Sentence.holds("A vertex with a colour (band 0 the lowest byte; the lowest 24 bits) of a"
                 + " shading of kind 4 to 6: how many it has; 0 (and there is none more) for another"
-                + " kind, places that are not good, or 60 vertices.", EdgesOfCallsTest::vertex);
+                + " kind, places that are not good, or 60 vertices. NoSuchElementException.",
+                EdgesOfCallsTest::vertex);
         Sentence.holds("Point i of a patch: 1; 0 for another kind, or a place that is not good."
                 + " NoSuchElementException; ArrayIndexOutOfBoundsException.",
                 EdgesOfCallsTest::patch);
-        Sentence.holds("A shading of kind 2 or 3 is extended, or not: 1; 0 for another kind.",
-                EdgesOfCallsTest::extend);
-        Sentence.holds("How many triangles a shading has; 0 of kinds 1 to 3.",
+        Sentence.holds("A shading of kind 2 or 3 is extended, or not: 1; 0 for another kind."
+                + " NoSuchElementException.", EdgesOfCallsTest::extend);
+        Sentence.holds("How many triangles a shading has; 0 of kinds 1 to 3. NoSuchElementException.",
                 EdgesOfCallsTest::pieces);
         Sentence.holds("A band of the colour at a point; -1 where it is not painted."
                 + " NoSuchElementException; ArrayIndexOutOfBoundsException for another band;"
@@ -428,6 +429,9 @@ public final class EdgesOfCallsTest {
                 Check.same("third byte of " + colour, x.point(s, 1, 1, 2), colour >> 16 & 255);
             }
         }
+        for (int n : Made.NOWHERE) {
+            Check.noSuch("vertex of " + n, () -> Made.oneOfEachKind().vertex(n, 0.0, 0.0, 0));
+        }
     }
 
     private static void patch() {
@@ -485,6 +489,9 @@ public final class EdgesOfCallsTest {
         Check.same("the other one stays", y.point(3, -9, 0, 0), -1);
         Made.line(y, 0.0, 0.0, 8.0, 0.0);
         Check.same("a later one is not extended", y.point(7, -9, 0, 0), -1);
+        for (int n : Made.NOWHERE) {
+            Check.noSuch("extend of " + n, () -> y.extend(n, true, true));
+        }
     }
 
     private static void pieces() {
@@ -500,6 +507,9 @@ public final class EdgesOfCallsTest {
             Check.same("kind " + s + " of sixty", x.pieces(s), due[s]);
             x.vertex(s, 0.0, 0.0, 0);
             Check.same("kind " + s + " of no more", x.pieces(s), due[s]);
+        }
+        for (int n : Made.NOWHERE) {
+            Check.noSuch("pieces of " + n, () -> x.pieces(n));
         }
     }
 

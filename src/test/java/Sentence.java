@@ -22,6 +22,11 @@ final class Sentence {
         }
     }
 
+    /** The document on one line, each gap a single space; empty if it is not there. */
+    static String document() {
+        return TOLD;
+    }
+
     private static String told() {
         try {
             return Files.exists(DOCUMENT)
